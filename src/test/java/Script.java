@@ -80,6 +80,14 @@ final class Script {
         return arguments;
     }
 
+    /** Its very own name; one that the library threw, for want of a look ahead, is none of the document's. */
+    private static String nameOf(Throwable thrown) {
+        String name = thrown.getClass().getSimpleName();
+        StackTraceElement[] trace = thrown.getStackTrace();
+        boolean thrownByClass = trace.length > 0 && trace[0].getClassName().equals("UndoCellar");
+        return thrownByClass ? name : name + " thrown by the library";
+    }
+
     /** What the call answers; "throws " and the exception's very own name if it throws. */
     static String answer(UndoCellar cellar, String call, Object... arguments) {
         Class<?>[] types = new Class<?>[arguments.length];
@@ -88,7 +96,7 @@ final class Script {
             Method method = UndoCellar.class.getMethod(call, types);
             return String.valueOf(method.invoke(cellar, arguments));
         } catch (InvocationTargetException e) {
-            return "throws " + e.getCause().getClass().getSimpleName();
+            return "throws " + nameOf(e.getCause());
         } catch (NoSuchMethodException | IllegalAccessException e) {
             throw new IllegalStateException("the class has no such call: " + call, e);
         }

@@ -5,6 +5,7 @@ public final class WriteTest {
         wrongArguments();
         whichIsFirst();
         refusals();
+        asManyAsThereCanBe();
         Script.end("WriteTest");
     }
 
@@ -130,5 +131,17 @@ public final class WriteTest {
                 marked() = 0
                 dropped() = 0
                 """);
+    }
+
+    private static void asManyAsThereCanBe() {
+        StringBuilder calls = new StringBuilder("setSpace(30) = 12\n");
+        for (int transaction = 0; transaction < 16; transaction++) {
+            calls.append("begin() = ").append(transaction).append('\n');
+            calls.append(Script.times(30, "write(" + transaction + ", 0, 0) = 0"));
+            if (transaction < 15) {
+                calls.append("commit(").append(transaction).append(") = ").append(transaction + 1).append('\n');
+            }
+        }
+        Script.run("promise 4: 512 calls, as many of them writes as space allows", calls.toString());
     }
 }
