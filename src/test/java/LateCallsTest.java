@@ -11,20 +11,21 @@ public final class LateCallsTest {
             cellar.begin();
         }
         for (int i = 0; i < 3000; i++) {
-            need("write", Script.answer(cellar, "write", i / 50 % 61, i % 12, i));
-            need("read", Script.answer(cellar, "read", i / 50 % 61, i % 12));
-            need("readAt", Script.answer(cellar, "readAt", cellar.moment(), i % 12));
+            int transaction = i / 50 % 61;
+            need(cellar, "write", transaction, i % 12, i);
+            need(cellar, "read", transaction, i % 12);
+            need(cellar, "readAt", cellar.moment(), i % 12);
+            need(cellar, "versionAt", 0, i % 12);
+            need(cellar, "lockOf", i % 12);
             if (i % 50 == 49) {
-                need("commit", Script.answer(cellar, "commit", i / 50 % 61));
-            }
-            if (i % 500 == 0) {
-                State.of(cellar);
+                need(cellar, i % 100 == 99 ? "commit" : "undo", transaction);
             }
         }
         Script.end("LateCallsTest");
     }
 
-    private static void need(String call, String answer) {
+    private static void need(UndoCellar cellar, String call, int... arguments) {
+        String answer = Script.answer(cellar, call, arguments);
         boolean named = !answer.startsWith("throws ") || NAMED.contains(answer.substring("throws ".length()));
         Script.due(call + " behind the 512th call, answering " + answer, String.valueOf(named), "true");
     }

@@ -256,45 +256,72 @@ final class Model {
         }
     }
 
+    private int askedVersion(int asOf, int row) {
+        needRow(row);
+        needMoment(asOf);
+        return versionAt(asOf, row);
+    }
+
+    private int askedNow(int row) {
+        needRow(row);
+        return now[row];
+    }
+
+    private int askedLock(int row) {
+        needRow(row);
+        return lockOf(row);
+    }
+
+    private int askedSlot(int block, int slot) {
+        needSlot(block, slot);
+        return slots[block][slot];
+    }
+
+    private boolean askedMark(int block, int slot) {
+        needSlot(block, slot);
+        return marks[block][slot];
+    }
+
+    private void needSlot(int block, int slot) {
+        if (!(0 <= block && block < 3 && 0 <= slot && slot < 2)) {
+            throw new IndexOutOfBoundsException();
+        }
+    }
+
     /** What the call of that name answers, as Script.answer tells it of the class. */
-    String answer(String call, int... a) {
+    String answer(String call, int[] a) {
         try {
-            return String.valueOf(switch (call) {
-                case "setSpace" -> setSpace(a[0]);
-                case "begin" -> begin();
-                case "write" -> write(a[0], a[1], a[2]);
-                case "read" -> read(a[0], a[1]);
-                case "readAt" -> readAt(a[0], a[1]);
-                case "save" -> save(a[0]);
-                case "undoTo" -> undoTo(a[0], a[1]);
-                case "undo" -> undo(a[0]);
-                case "commit" -> commit(a[0]);
-                default -> throw new UnsupportedOperationException(call);
-            });
+            return switch (call) {
+                case "isMarked" -> String.valueOf(askedMark(a[0], a[1]));
+                default -> String.valueOf(number(call, a));
+            };
         } catch (IllegalArgumentException | IllegalStateException | IndexOutOfBoundsException
                 | NoSuchElementException e) {
             return "throws " + e.getClass().getSimpleName();
         }
     }
 
-    /** All that there is, in the words of State. */
-    String state() {
-        StringBuilder all = new StringBuilder();
-        all.append("moment ").append(moment).append(", transactions ").append(ends.size());
-        all.append(", marked ").append(marked).append(", records ").append(records.size());
-        all.append(", dropped ").append(dropped);
-        for (int row = 0; row < 12; row++) {
-            all.append(", row ").append(row).append(": now ").append(now[row]).append(" lock ").append(lockOf(row));
-            for (int asOf = 0; asOf <= moment; asOf++) {
-                all.append(' ').append(versionAt(asOf, row));
-            }
-        }
-        for (int block = 0; block < 3; block++) {
-            for (int slot = 0; slot < 2; slot++) {
-                all.append(", slot ").append(block).append('/').append(slot).append(": ").append(slots[block][slot]);
-                all.append(' ').append(marks[block][slot]);
-            }
-        }
-        return all.toString();
+    private int number(String call, int[] a) {
+        return switch (call) {
+            case "setSpace" -> setSpace(a[0]);
+            case "begin" -> begin();
+            case "write" -> write(a[0], a[1], a[2]);
+            case "read" -> read(a[0], a[1]);
+            case "readAt" -> readAt(a[0], a[1]);
+            case "save" -> save(a[0]);
+            case "undoTo" -> undoTo(a[0], a[1]);
+            case "undo" -> undo(a[0]);
+            case "commit" -> commit(a[0]);
+            case "moment" -> moment;
+            case "transactions" -> ends.size();
+            case "now" -> askedNow(a[0]);
+            case "versionAt" -> askedVersion(a[0], a[1]);
+            case "lockOf" -> askedLock(a[0]);
+            case "slotOf" -> askedSlot(a[0], a[1]);
+            case "marked" -> marked;
+            case "records" -> records.size();
+            case "dropped" -> dropped;
+            default -> throw new UnsupportedOperationException(call);
+        };
     }
 }

@@ -1,6 +1,8 @@
 import java.lang.reflect.InvocationTargetException;
 import java.lang.reflect.Method;
+import java.util.ArrayList;
 import java.util.Arrays;
+import java.util.List;
 import java.util.regex.Matcher;
 import java.util.regex.Pattern;
 
@@ -10,7 +12,11 @@ import java.util.regex.Pattern;
  * A call that throws must change nothing: that is looked at for every one.
  */
 final class Script {
-    private static final Pattern LINE = Pattern.compile("(\\w+)\\(([^)]*)\\) (=|throws) (\\S+)");
+    /** An object is used for so many calls; nothing is promised of it behind them. */
+    static final int MOST_CALLS = 512;
+
+    private static final Pattern LINE = Pattern.compile("(\\w+\\([^)]*\\)) (= |throws )(\\S+)");
+    private static final Pattern CALL = Pattern.compile("(\\w+)\\(([^)]*)\\)");
 
     private static int wrong = 0;
 
@@ -18,16 +24,45 @@ final class Script {
     }
 
     /** Runs the calls, and tells each whose answer is not the one that is due. */
-    static void run(String name, String calls) {
+    static void run(String name, String lines) {
         UndoCellar cellar = new UndoCellar();
-        int number = 0;
-        for (String line : calls.split("\n")) {
+        List<String> calls = new ArrayList<String>();
+        for (String line : lines.split("\n")) {
             if (line.isBlank()) {
                 continue;
             }
-            number++;
-            check(name + ", call " + number, cellar, line.strip());
+            Matcher matcher = LINE.matcher(line.strip());
+            if (!matcher.matches() || calls.size() == MOST_CALLS) {
+                throw new IllegalArgumentException(name + ": not a line of a script, or too many: " + line);
+            }
+            calls.add(matcher.group(1));
+            String place = name + ", call " + calls.size() + ", " + line.strip();
+            String got = answer(cellar, matcher.group(1));
+            due(place, got, matcher.group(2).replace("= ", "") + matcher.group(3));
+            if (got.startsWith("throws ")) {
+                needNothingChanged(place, calls);
+            }
         }
+    }
+
+    /**
+     * The last call has thrown. Two other objects tell what is there without it and with it: to ask
+     * the first one would use up its calls.
+     */
+    private static void needNothingChanged(String name, List<String> calls) {
+        List<String> callsAhead = calls.subList(0, calls.size() - 1);
+        int left = MOST_CALLS - calls.size();
+        String ahead = State.of(behind(callsAhead), left);
+        String behind = State.of(behind(calls), left);
+        due(name + ", what there is behind it", behind, ahead);
+    }
+
+    private static UndoCellar behind(List<String> calls) {
+        UndoCellar cellar = new UndoCellar();
+        for (String call : calls) {
+            answer(cellar, call);
+        }
+        return cellar;
     }
 
     /** The same line so many times, "#" standing for 0, 1, 2 and so on. */
@@ -54,51 +89,43 @@ final class Script {
         }
     }
 
-    private static void check(String name, UndoCellar cellar, String line) {
-        Matcher matcher = LINE.matcher(line);
-        if (!matcher.matches()) {
-            throw new IllegalArgumentException("not a line of a script: " + line);
-        }
-        String before = State.of(cellar);
-        String got = answer(cellar, matcher.group(1), arguments(matcher.group(2)));
-        String want = matcher.group(3).equals("=") ? matcher.group(4) : "throws " + matcher.group(4);
-        due(name + ", " + line, got, want);
-        if (got.startsWith("throws ")) {
-            due(name + ", what there is behind " + line, State.of(cellar), before);
-        }
-    }
-
-    private static Object[] arguments(String text) {
-        if (text.isBlank()) {
-            return new Object[0];
-        }
-        String[] parts = text.split(",");
-        Object[] arguments = new Object[parts.length];
-        for (int i = 0; i < parts.length; i++) {
-            arguments[i] = Integer.valueOf(parts[i].strip());
-        }
-        return arguments;
-    }
-
-    /** Its very own name; one that the library threw, for want of a look ahead, is none of the document's. */
-    private static String nameOf(Throwable thrown) {
-        String name = thrown.getClass().getSimpleName();
-        StackTraceElement[] trace = thrown.getStackTrace();
-        boolean thrownByClass = trace.length > 0 && trace[0].getClassName().equals("UndoCellar");
-        return thrownByClass ? name : name + " thrown by the library";
-    }
-
     /** What the call answers; "throws " and the exception's very own name if it throws. */
-    static String answer(UndoCellar cellar, String call, Object... arguments) {
+    static String answer(UndoCellar cellar, String call) {
+        Matcher matcher = CALL.matcher(call);
+        if (!matcher.matches()) {
+            throw new IllegalArgumentException("not a call: " + call);
+        }
+        return answer(cellar, matcher.group(1), arguments(matcher.group(2)));
+    }
+
+    static String answer(UndoCellar cellar, String call, int[] arguments) {
         Class<?>[] types = new Class<?>[arguments.length];
         Arrays.fill(types, int.class);
         try {
             Method method = UndoCellar.class.getMethod(call, types);
-            return String.valueOf(method.invoke(cellar, arguments));
+            return String.valueOf(method.invoke(cellar, Arrays.stream(arguments).boxed().toArray()));
         } catch (InvocationTargetException e) {
             return "throws " + nameOf(e.getCause());
         } catch (NoSuchMethodException | IllegalAccessException e) {
             throw new IllegalStateException("the class has no such call: " + call, e);
         }
+    }
+
+    private static int[] arguments(String text) {
+        if (text.isBlank()) {
+            return new int[0];
+        }
+        return Arrays.stream(text.split(",")).map(String::strip).mapToInt(Integer::parseInt).toArray();
+    }
+
+    /**
+     * Its very own name; one that the library or the machine threw, for want of a look ahead, is
+     * none of the document's.
+     */
+    private static String nameOf(Throwable thrown) {
+        String name = thrown.getClass().getSimpleName();
+        StackTraceElement[] trace = thrown.getStackTrace();
+        boolean thrownByClass = trace.length > 0 && trace[0].getClassName().matches("UndoCellar(\\$.*)?");
+        return thrownByClass ? name : name + " thrown by the library";
     }
 }

@@ -1,25 +1,48 @@
-/** All that the calls tell that change nothing. */
+import java.util.ArrayList;
+import java.util.List;
+
+/** All that an object answers when it is asked about everything; the asking marks slots. */
 final class State {
     private State() {
     }
 
-    static String of(UndoCellar x) {
+    /** What it answers to so many calls at most: an object is not used for more than 512. */
+    static String of(UndoCellar cellar, int mostCalls) {
         StringBuilder all = new StringBuilder();
-        all.append("moment ").append(x.moment()).append(", transactions ").append(x.transactions());
-        all.append(", marked ").append(x.marked()).append(", records ").append(x.records());
-        all.append(", dropped ").append(x.dropped());
-        for (int row = 0; row < 12; row++) {
-            all.append(", row ").append(row).append(": now ").append(x.now(row)).append(" lock ").append(x.lockOf(row));
-            for (int moment = 0; moment <= x.moment(); moment++) {
-                all.append(' ').append(x.versionAt(moment, row));
-            }
-        }
-        for (int block = 0; block < 3; block++) {
-            for (int slot = 0; slot < 2; slot++) {
-                all.append(", slot ").append(block).append('/').append(slot).append(": ").append(x.slotOf(block, slot));
-                all.append(' ').append(x.isMarked(block, slot));
-            }
+        List<String> calls = calls(cellar.moment(), cellar.transactions());
+        // Those two were calls, too.
+        for (int i = 0; i < calls.size() && i < mostCalls - 2; i++) {
+            all.append(calls.get(i)).append(" = ").append(Script.answer(cellar, calls.get(i))).append("; ");
         }
         return all.toString();
+    }
+
+    /** Those first that tell most: there may be calls left for only a few. */
+    private static List<String> calls(int moment, int transactions) {
+        List<String> calls = new ArrayList<String>();
+        calls.addAll(List.of("moment()", "transactions()", "marked()", "records()", "dropped()", "setSpace(30)"));
+        for (int slot = 0; slot < 6; slot++) {
+            calls.add("slotOf(" + slot / 2 + ", " + slot % 2 + ")");
+            calls.add("isMarked(" + slot / 2 + ", " + slot % 2 + ")");
+        }
+        for (int row = 0; row < 12; row++) {
+            calls.add("now(" + row + ")");
+            calls.add("lockOf(" + row + ")");
+        }
+        for (int transaction = 0; transaction < transactions; transaction++) {
+            calls.add("save(" + transaction + ")");
+        }
+        for (int asOf = 0; asOf <= moment; asOf++) {
+            for (int row = 0; row < 12; row++) {
+                calls.add("versionAt(" + asOf + ", " + row + ")");
+                calls.add("readAt(" + asOf + ", " + row + ")");
+            }
+        }
+        for (int transaction = 0; transaction < transactions; transaction++) {
+            for (int row = 0; row < 12; row++) {
+                calls.add("read(" + transaction + ", " + row + ")");
+            }
+        }
+        return calls;
     }
 }

@@ -3,9 +3,8 @@ public final class WriteTest {
     public static void main(String[] args) {
         values();
         wrongArguments();
-        whichIsFirst();
-        refusals();
-        asManyAsThereCanBe();
+        notActiveOrLocked();
+        noSlot();
         Script.end("WriteTest");
     }
 
@@ -21,19 +20,45 @@ public final class WriteTest {
                 now(3) = 9
                 now(2) = 0
                 now(4) = 0
-                undo(1) = 1
-                begin() = 2
-                write(2, 3, 1) = -7
                 """);
-        Script.run("promise 4: the ends of the values", """
+        Script.run("promise 4: the value before is that of now, not that of the writer's beginning", """
+                begin() = 0
+                begin() = 1
+                write(1, 0, 5) = 0
+                commit(1) = 1
+                read(0, 0) = 0
+                write(0, 0, 6) = 5
+                read(0, 0) = 6
+                """);
+        Script.run("promise 4: behind an undo the value before is the one that was given back", """
+                begin() = 0
+                write(0, 3, 7) = 0
+                write(0, 3, 8) = 7
+                undoTo(0, 1) = 1
+                write(0, 3, 9) = 7
+                undo(0) = 2
+                begin() = 1
+                write(1, 3, 1) = 0
+                """);
+        Script.run("promise 4: value -1000000 to 1000000, its ends", """
                 begin() = 0
                 write(0, 0, 1000000) = 0
+                now(0) = 1000000
                 write(0, 0, -1000000) = 1000000
-                write(0, 0, 1000001) throws IllegalArgumentException
-                write(0, 0, -1000001) throws IllegalArgumentException
-                write(0, 0, 2147483647) throws IllegalArgumentException
-                write(0, 0, -2147483648) throws IllegalArgumentException
                 now(0) = -1000000
+                write(0, 0, 0) = -1000000
+                """);
+        Script.run("promise 4: a value too large", """
+                begin() = 0
+                write(0, 0, 1000001) throws IllegalArgumentException
+                write(0, 0, 2147483647) throws IllegalArgumentException
+                now(0) = 0
+                """);
+        Script.run("promise 4: a value too small", """
+                begin() = 0
+                write(0, 0, -1000001) throws IllegalArgumentException
+                write(0, 0, -2147483648) throws IllegalArgumentException
+                now(0) = 0
                 """);
         Script.run("promise 4: the same value again is a change, too", """
                 begin() = 0
@@ -42,106 +67,152 @@ public final class WriteTest {
                 save(0) = 2
                 records() = 2
                 lockOf(0) = 0
-                """);
-        Script.run("promise 4: a row that was committed by another one since the beginning can be written", """
-                begin() = 0
-                begin() = 1
-                write(1, 0, 5) = 0
-                commit(1) = 1
-                write(0, 0, 6) = 5
-                read(0, 0) = 6
+                slotOf(0, 0) = 0
                 """);
     }
 
     private static void wrongArguments() {
-        Script.run("promise 4: no such transaction or row", """
+        Script.run("promise 4: no such transaction", """
                 write(0, 0, 0) throws IndexOutOfBoundsException
                 begin() = 0
                 write(-1, 0, 0) throws IndexOutOfBoundsException
                 write(1, 0, 0) throws IndexOutOfBoundsException
+                write(60, 0, 0) throws IndexOutOfBoundsException
                 write(2147483647, 0, 0) throws IndexOutOfBoundsException
                 write(-2147483648, 0, 0) throws IndexOutOfBoundsException
+                write(0, 0, 0) = 0
+                """);
+        Script.run("promise 4: row 0 to 11, its ends", """
+                begin() = 0
+                write(0, 0, 1) = 0
+                write(0, 11, 2) = 0
+                now(0) = 1
+                now(11) = 2
+                """);
+        Script.run("promise 4: no such row", """
+                begin() = 0
                 write(0, -1, 0) throws IndexOutOfBoundsException
                 write(0, 12, 0) throws IndexOutOfBoundsException
                 write(0, 2147483647, 0) throws IndexOutOfBoundsException
                 write(0, -2147483648, 0) throws IndexOutOfBoundsException
-                write(0, 11, 0) = 0
                 """);
     }
 
-    private static void whichIsFirst() {
-        Script.run("promise 4: the exception that is named first", """
+    private static void notActiveOrLocked() {
+        Script.run("promise 4: the transaction was committed", """
                 begin() = 0
+                write(0, 0, 1) = 0
                 commit(0) = 1
-                write(1, 0, 1000001) throws IndexOutOfBoundsException
-                write(0, 12, 1000001) throws IndexOutOfBoundsException
-                write(0, 12, 0) throws IndexOutOfBoundsException
-                write(0, 0, 1000001) throws IllegalArgumentException
-                write(0, 0, 0) throws IllegalStateException
+                write(0, 0, 2) throws IllegalStateException
+                write(0, 8, 2) throws IllegalStateException
+                now(0) = 1
                 """);
-    }
-
-    private static void refusals() {
-        Script.run("promise 4: the transaction is not active", """
+        Script.run("promise 4: the transaction was undone", """
                 begin() = 0
-                begin() = 1
-                commit(0) = 1
-                undo(1) = 0
-                write(0, 0, 1) throws IllegalStateException
-                write(1, 0, 1) throws IllegalStateException
+                write(0, 0, 1) = 0
+                undo(0) = 1
+                write(0, 0, 2) throws IllegalStateException
+                write(0, 8, 2) throws IllegalStateException
+                now(0) = 0
                 """);
-        Script.run("promise 4: the row is locked by another one", """
+        Script.run("promise 4: the row is locked by another one, and only the row", """
                 begin() = 0
                 begin() = 1
                 write(0, 0, 1) = 0
                 write(1, 0, 2) throws IllegalStateException
                 write(1, 1, 2) = 0
-                undoTo(0, 0) = 1
-                write(1, 0, 2) = 0
-                write(0, 0, 1) throws IllegalStateException
-                commit(1) = 1
-                write(0, 0, 1) = 2
+                write(0, 1, 2) throws IllegalStateException
+                write(0, 0, 3) = 1
                 """);
-        Script.run("promise 4: a refused write leaves all marks as they were", """
+        Script.run("promise 4: the row can be written once its changes are undone", """
+                begin() = 0
+                begin() = 1
+                write(0, 0, 1) = 0
+                write(0, 0, 2) = 1
+                undoTo(0, 1) = 1
+                write(1, 0, 3) throws IllegalStateException
+                undoTo(0, 0) = 1
+                write(1, 0, 3) = 0
+                write(0, 0, 1) throws IllegalStateException
+                """);
+        Script.run("promise 4: the row can be written once the one that locked it has ended", """
+                begin() = 0
+                begin() = 1
+                write(0, 0, 1) = 0
+                write(0, 1, 1) = 0
+                write(1, 0, 2) throws IllegalStateException
+                commit(0) = 1
+                write(1, 0, 2) = 1
+                undo(1) = 1
+                begin() = 2
+                write(2, 0, 3) = 1
+                """);
+    }
+
+    private static void noSlot() {
+        Script.run("promise 4: no slot while two others who are active have both", """
+                begin() = 0
+                begin() = 1
+                begin() = 2
+                write(0, 0, 1) = 0
+                write(1, 1, 1) = 0
+                write(2, 2, 1) throws IllegalStateException
+                write(2, 3, 1) throws IllegalStateException
+                write(2, 4, 1) = 0
+                write(0, 2, 1) = 0
+                write(1, 3, 1) = 0
+                """);
+        Script.run("promise 4: no slot, though all changes of the others are undone: they are active", """
+                begin() = 0
+                begin() = 1
+                begin() = 2
+                write(0, 0, 1) = 0
+                write(1, 1, 1) = 0
+                undoTo(0, 0) = 1
+                undoTo(1, 0) = 1
+                write(2, 0, 1) throws IllegalStateException
+                commit(1) = 1
+                write(2, 0, 1) = 0
+                """);
+        Script.run("promise 4: a slot of one that ended can be had behind cleaning, though it was not marked", """
+                begin() = 0
+                begin() = 1
+                begin() = 2
+                write(0, 0, 1) = 0
+                write(1, 1, 1) = 0
+                commit(1) = 1
+                isMarked(0, 1) = false
+                write(2, 2, 1) = 0
+                slotOf(0, 0) = 0
+                slotOf(0, 1) = 2
+                marked() = 1
+                """);
+        Script.run("promise 4: a slot that was marked before can be had", """
+                begin() = 0
+                begin() = 1
+                begin() = 2
+                write(0, 0, 1) = 0
+                write(1, 1, 1) = 0
+                undo(0) = 1
+                readAt(0, 3) = 0
+                isMarked(0, 0) = true
+                write(2, 2, 1) = 0
+                slotOf(0, 0) = 2
+                slotOf(0, 1) = 1
+                isMarked(0, 0) = false
+                marked() = 1
+                """);
+        Script.run("promise 4: the record is dropped and the slot is taken of one and the same that ended", """
+                setSpace(2) = 12
                 begin() = 0
                 begin() = 1
                 begin() = 2
                 write(0, 0, 1) = 0
                 write(1, 1, 1) = 0
                 commit(0) = 1
-                write(2, 1, 1) throws IllegalStateException
-                isMarked(0, 0) = false
-                marked() = 0
-                setSpace(2) = 12
-                write(1, 2, 1) = 0
-                isMarked(0, 0) = true
-                marked() = 1
+                write(2, 2, 1) = 0
+                dropped() = 1
+                slotOf(0, 0) = 2
                 """);
-        Script.run("promise 4: no space, and the marks stay, too", """
-                setSpace(2) = 12
-                begin() = 0
-                begin() = 1
-                begin() = 2
-                write(0, 0, 1) = 0
-                write(1, 1, 1) = 0
-                commit(1) = 1
-                write(2, 2, 1) throws IllegalStateException
-                isMarked(0, 1) = false
-                slotOf(0, 1) = 1
-                marked() = 0
-                dropped() = 0
-                """);
-    }
-
-    private static void asManyAsThereCanBe() {
-        StringBuilder calls = new StringBuilder("setSpace(30) = 12\n");
-        for (int transaction = 0; transaction < 16; transaction++) {
-            calls.append("begin() = ").append(transaction).append('\n');
-            calls.append(Script.times(30, "write(" + transaction + ", 0, 0) = 0"));
-            if (transaction < 15) {
-                calls.append("commit(").append(transaction).append(") = ").append(transaction + 1).append('\n');
-            }
-        }
-        Script.run("promise 4: 512 calls, as many of them writes as space allows", calls.toString());
     }
 }
