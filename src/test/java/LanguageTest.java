@@ -1,5 +1,7 @@
 import java.io.IOException;
+import java.lang.reflect.Constructor;
 import java.lang.reflect.Field;
+import java.lang.reflect.Method;
 import java.lang.reflect.Modifier;
 import java.nio.file.Files;
 import java.nio.file.Path;
@@ -18,6 +20,8 @@ public final class LanguageTest {
             "java.util.Iterator", "java.util.NoSuchElementException");
     private static final Set<String> THROWN = Set.of("IllegalStateException", "IllegalArgumentException",
             "IndexOutOfBoundsException", "NoSuchElementException");
+    private static final Pattern METHOD = Pattern.compile(
+            "(?ms)^( {4}| {8})(?:private|public) (?!static final class)[^;={]*?\\{$.*?^\\1\\}$");
     /** What the rules forbid, and what the class has done without. */
     private static final String[] FORBIDDEN = {
         "\\bpackage\\b", "->", "::", "\\bfinally\\b", "\\bsynchronized\\b", "\\bassert\\b", "\\bcatch\\b",
@@ -36,6 +40,7 @@ public final class LanguageTest {
         for (String forbidden : FORBIDDEN) {
             need("forbidden: " + forbidden, !Pattern.compile(forbidden).matcher(code).find());
         }
+        need("rule 11: methods of at most sixty lines", longestMethod(text) <= 60);
         lookInto(UndoCellar.class);
         Class<?>[] inside = UndoCellar.class.getDeclaredClasses();
         need("rule 11: at most twelve classes", inside.length < 12);
@@ -45,6 +50,7 @@ public final class LanguageTest {
             need("rule 1: a static class inside: " + nested.getName(), Modifier.isStatic(modifiers));
             need("rule 1: no public or protected class inside: " + nested.getName(),
                     !Modifier.isPublic(modifiers) && !Modifier.isProtected(modifiers));
+            lookIntoMembers(nested);
         }
         Script.end("LanguageTest");
     }
@@ -57,6 +63,37 @@ public final class LanguageTest {
             need("rule 5: a static field is final: " + field, !isStatic || Modifier.isFinal(field.getModifiers()));
         }
         need("rule 11: at most some twenty fields: " + one.getName(), ownFields <= 20);
+        for (Method method : one.getDeclaredMethods()) {
+            need("rule 11: at most seven parameters: " + method, method.getParameterCount() <= 7);
+        }
+    }
+
+    private static void lookIntoMembers(Class<?> nested) {
+        for (Field field : nested.getDeclaredFields()) {
+            need("rule 1: private: " + field, Modifier.isPrivate(field.getModifiers()));
+        }
+        for (Constructor<?> constructor : nested.getDeclaredConstructors()) {
+            need("rule 1: private: " + constructor, Modifier.isPrivate(constructor.getModifiers()));
+        }
+        Set<String> face = new TreeSet<String>();
+        for (Method method : UndoCellar.class.getMethods()) {
+            face.add(method.getName());
+        }
+        for (Method method : nested.getDeclaredMethods()) {
+            need("rule 1: private: " + method, Modifier.isPrivate(method.getModifiers()));
+            need("rule 1: no name of a public one: " + method, !face.contains(method.getName()));
+        }
+    }
+
+    /** A method begins with a "{" at its line's end and ends with a "}" as far in as its first line. */
+    private static int longestMethod(String text) {
+        int longest = 0;
+        Matcher matcher = METHOD.matcher(text);
+        while (matcher.find()) {
+            longest = Math.max(longest, matcher.group().split("\n").length);
+        }
+        need("methods are found in the text", longest > 1);
+        return longest;
     }
 
     private static void need(String name, boolean holds) {
